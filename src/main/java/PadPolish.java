@@ -562,12 +562,17 @@ public final class PadPolish {
         int count = current.passes.size();
         int least = MOST_FILM + 1;
         for (int word = 0; word < WORDS[count]; word++) {
-            if (spellOrder(word, count)) {
-                int uneven = unevenByTriedOrder(count);
-                if (uneven < least) {
-                    least = uneven;
-                    System.arraycopy(triedOrder, 0, bestOrder, 0, count);
-                }
+            if (!spellOrder(word, count)) {
+                continue;
+            }
+            guess.become(current.surface);
+            for (int k = 0; k < count; k++) {
+                current.passes.get(triedOrder[k]).goAlong(guess);
+            }
+            int uneven = guess.unevenness();
+            if (uneven < least) {
+                least = uneven;
+                System.arraycopy(triedOrder, 0, bestOrder, 0, count);
             }
         }
         return least;
@@ -583,14 +588,6 @@ public final class PadPolish {
             seen |= 1 << triedOrder[k];
         }
         return seen == allPasses();
-    }
-
-    private int unevenByTriedOrder(int count) {
-        guess.become(current.surface);
-        for (int k = 0; k < count; k++) {
-            current.passes.get(triedOrder[k]).goAlong(guess);
-        }
-        return guess.unevenness();
     }
 
     private static long power(long base, int exponent) {
@@ -932,8 +929,13 @@ public final class PadPolish {
             return fourth;
         }
 
+        /** What it does there ahead of laying: nothing, but for the kinds that take something first. */
+        void takeFirst(Surface surface, int cell) {
+        }
+
         @Override
-        void touch(Surface surface, int cell) {
+        final void touch(Surface surface, int cell) {
+            takeFirst(surface, cell);
             surface.layFilm(cell, laid(surface.wet / 4));
             surface.layHaze(cell);
             surface.dryPad();
@@ -969,9 +971,8 @@ public final class PadPolish {
         }
 
         @Override
-        void touch(Surface surface, int cell) {
+        void takeFirst(Surface surface, int cell) {
             surface.takeSoft(cell, surface.soft[cell] / 2);
-            super.touch(surface, cell);
         }
 
         @Override
@@ -1003,11 +1004,10 @@ public final class PadPolish {
         }
 
         @Override
-        void touch(Surface surface, int cell) {
+        void takeFirst(Surface surface, int cell) {
             if (surface.wet == 0) {
                 surface.scratch(cell);
             }
-            super.touch(surface, cell);
         }
 
         @Override
@@ -1032,7 +1032,7 @@ public final class PadPolish {
         }
 
         @Override
-        void touch(Surface surface, int cell) {
+        final void touch(Surface surface, int cell) {
             surface.takeHaze(cell, clearedHaze());
             surface.takeSoft(cell, Math.min(surface.soft[cell], 1));
             surface.dryPad();

@@ -7,9 +7,12 @@ import java.util.Random;
  */
 final class ForetoldTest {
     private static final int IMAGE = 1;
+    private static final String FIFTEEN =
+        "t0,0;f0,1;f1,1;f2,1;f3,1;f4,1;f5,1;f6,3;f7,3;f8,3;f9,3;f10,2;f11,2;f12,2;f13,2;f14,2;";
 
     public static void main(String[] args) {
         workedOrders();
+        workedUneven();
         workedEnough();
         workedWetFor();
         workedOver();
@@ -40,6 +43,30 @@ final class ForetoldTest {
         x = Checks.told("t0,0;f0,9;");
         Checks.due("no passes", x.order(-1), 9);
         Checks.due("no first", x.order(0), PadPolish.NONE);
+    }
+
+    private static void workedUneven() {
+        PadPolish x = Checks.told("t0,0;");
+        Checks.due("all even", x.uneven(3), 0);
+        Checks.due("all even", x.order(-1), 0);
+        x = Checks.told(FIFTEEN);
+        Checks.due("none is bare", x.uneven(0), 2);
+        x = Checks.told("t0,0;f0,99;s0ewewewew;");
+        for (int i = 0; i < 20; i++) {
+            x.charge(99, 0);
+            x.make(0);
+            x.rest();
+        }
+        Checks.due("999 at most", x.cell(0, 0), 999);
+        Checks.due("by how much", x.uneven(0), 999);
+        x.make(0);
+        x.rest();
+        for (int i = 0; i < 11; i++) {
+            x.make(0);
+        }
+        Checks.due("no wet, no soft", x.pad(0) + x.cell(0, 1), 0);
+        Checks.due("the most uneven", x.order(-1), 999);
+        Checks.due("by its only order", x.order(0), 0);
     }
 
     private static void workedEnough() {
@@ -91,6 +118,12 @@ final class ForetoldTest {
         Checks.due("a cell beyond", x.over(32767, 1), PadPolish.NONE);
         x = Checks.told("t0,0;g0e;g2e;g4;g0eeee;");
         Checks.due("the fewest is not the least", x.over(31, 1), 8);
+        x = Checks.told("t0,0;g0;g1;g2;g3;");
+        Checks.due("three", x.over(14, 0), 3);
+        Checks.due("which", x.over(14, 1), 14);
+        Checks.due("all four", x.over(15, 0), 4);
+        Checks.due("which", x.over(15, 1), 15);
+        x = Checks.told("t0,0;g0e;g2e;g4;g0eeee;");
         Checks.due("the fewest", x.over(31, 0), 1);
     }
 
@@ -133,7 +166,8 @@ final class ForetoldTest {
         Checks.due("what lacks", x.cups(16384 + 2 + 4, 51), 44 + 51);
         Checks.due("what lacks in all", x.cups(32767, 999), 15 * 999 - 156);
         Checks.due("least film", x.thin(), 32767 - 16384 - 3);
-        x = Checks.told("t0,0;f0,1;f1,1;f2,1;f3,1;f4,1;f5,1;f6,3;f7,3;f8,3;f9,3;f10,2;f11,2;f12,2;f13,2;f14,2;");
+        Checks.due("the least t", x.cups(7, 1), 1);
+        x = Checks.told(FIFTEEN);
         Checks.due("least film", x.thin(), 63);
     }
 

@@ -9,6 +9,7 @@ final class TextTest {
         room();
         faultsLeaveAll();
         newTables();
+        oldBytes();
         Checks.end();
     }
 
@@ -219,5 +220,25 @@ final class TextTest {
         }
         Checks.due("one pass", x.path(1, 0), PadPolish.BAD);
         Checks.due("rows stay", x.count(0), 1);
+        x.charge(40, 9);
+        x.make(0);
+        Checks.due("a faulty one", Checks.tell(x, "t5,6;f7,7;g0;x"), -1000100 - 13);
+        Checks.due("a third table", Checks.tell(x, "t0,0;"), 0);
+        Checks.pad(x, "third", 0, 0, 0);
+        Checks.due("sink", x.count(2), 0);
+        for (int cell = 0; cell < 15; cell++) {
+            Checks.film(x, "third", cell, 0, 0, 0);
+        }
+    }
+
+    /** Bytes of an earlier text lie behind a shorter one in memory; they are none of it. */
+    private static void oldBytes() {
+        PadPolish x = new PadPolish();
+        Checks.due("a long one", Checks.tell(x, "t5,555;"), -1000100 - 3);
+        Checks.due("a shorter one", Checks.tell(x, "t5,5"), -1000100 - 4);
+        Checks.due("a number at the end", Checks.tell(x, "t5,"), -1000100 - 3);
+        Checks.due("its fault", x.fault(), 1);
+        Checks.due("a good one", Checks.tell(x, "t5,5;"), 0);
+        Checks.due("one without its end", Checks.tell(x, "t5,5"), -1000100 - 4);
     }
 }
