@@ -28,11 +28,15 @@ final class Checks {
         }
     }
 
-    /** Feeds a text and reads it; gives what table() answers. */
-    static int tell(PadPolish x, String text) {
+    static void feed(PadPolish x, String text) {
         for (int i = 0; i < text.length(); i++) {
             x.feed(text.charAt(i));
         }
+    }
+
+    /** Feeds a text and reads it; gives what table() answers. */
+    static int tell(PadPolish x, String text) {
+        feed(x, text);
         return x.table();
     }
 
@@ -65,6 +69,15 @@ final class Checks {
         return films;
     }
 
+    /** A text without passes that tells FILM of the first cells. */
+    static String filmText(int... films) {
+        StringBuilder text = new StringBuilder("t0,0;");
+        for (int cell = 0; cell < films.length; cell++) {
+            text.append('f').append(cell).append(',').append(films[cell]).append(';');
+        }
+        return text.toString();
+    }
+
     static int sum(int[] values) {
         int sum = 0;
         for (int value : values) {
@@ -83,7 +96,7 @@ final class Checks {
         return most - least;
     }
 
-    /** The table and all that can be asked of it without changing it. */
+    /** All that can be asked of an object without changing it, but for fault() and status(): 142 calls. */
     static String look(PadPolish x) {
         List<Long> seen = new ArrayList<>();
         for (int cell = 0; cell < 15; cell++) {
@@ -106,7 +119,6 @@ final class Checks {
         for (int i = 0; i < 17; i++) {
             seen.add((long) x.trace(i));
         }
-        seen.add((long) x.fault());
         return seen.toString();
     }
 }

@@ -1,12 +1,13 @@
 import java.math.BigInteger;
+import java.util.Arrays;
 import java.util.Random;
+import java.util.function.Supplier;
 
 /**
- * Promises 17 to 28. Beside cases worked by hand, what is foretold is compared with what comes of it when
- * it is done by make(), rest(), stand() and charge() on an image.
+ * Promises 17 to 28. Beside cases worked by hand, what is foretold is compared with what comes of it when it is done
+ * by make(), rest(), stand() and charge(), each time on a new object of the same past.
  */
 final class ForetoldTest {
-    private static final int IMAGE = 1;
     private static final String FIFTEEN =
         "t0,0;f0,1;f1,1;f2,1;f3,1;f4,1;f5,1;f6,3;f7,3;f8,3;f9,3;f10,2;f11,2;f12,2;f13,2;f14,2;";
 
@@ -172,8 +173,8 @@ final class ForetoldTest {
     }
 
     private static void dust() {
-        PadPolish x = new PadPolish();
         for (int p = 0; p <= 10; p++) {
+            PadPolish x = new PadPolish();
             for (int n = 0; n <= 10; n++) {
                 for (int k = 0; k <= n; k++) {
                     BigInteger above = BigInteger.ZERO;
@@ -192,6 +193,7 @@ final class ForetoldTest {
                 }
             }
         }
+        PadPolish x = new PadPolish();
         Checks.due("0 is 0 by 1", x.dust(0, 10, 1, 1), 1);
         int[][] wrong = {{-1, 1, 0, 0}, {11, 1, 0, 0}, {1, -1, 0, 0}, {1, 11, 0, 0}, {1, 3, 4, 0}, {1, 3, -1, 0},
             {1, 3, 1, 2}, {1, 3, 1, -1}, {1, -1, -1, 0}};
@@ -260,17 +262,16 @@ final class ForetoldTest {
         Random random = new Random(20261118);
         for (int i = 0; i < 150; i++) {
             String text = randomText(random);
-            PadPolish x = Checks.told(text);
-            doSomething(x, random);
-            x.image(IMAGE);
+            long past = random.nextLong();
+            Supplier<PadPolish> fresh = () -> lived(text, new Random(past));
             String where = text + " (" + i + ")";
-            compareRounds(x, where);
-            compareOrder(x, where);
-            compareEnough(x, where, 1 + random.nextInt(200));
-            compareWetFor(x, where, random.nextInt(50));
-            compareGoOn(x, where);
-            compareDone(x, where, random);
-            compareEvenings(x, where, random);
+            compareRounds(fresh, where);
+            compareOrder(fresh, where);
+            compareEnough(fresh, where, 1 + random.nextInt(200));
+            compareWetFor(fresh, where, random.nextInt(50));
+            compareGoOn(fresh, where);
+            compareDone(fresh, where, random);
+            compareEvenings(fresh, where, random);
         }
     }
 
@@ -303,7 +304,8 @@ final class ForetoldTest {
         return text.toString();
     }
 
-    private static void doSomething(PadPolish x, Random random) {
+    private static PadPolish lived(String text, Random random) {
+        PadPolish x = Checks.told(text);
         x.charge(random.nextInt(100), random.nextInt(100));
         for (int i = random.nextInt(6); i > 0; i--) {
             x.make(random.nextInt(4));
@@ -314,53 +316,51 @@ final class ForetoldTest {
                 x.charge(random.nextInt(30), random.nextInt(5));
             }
         }
+        return x;
     }
 
-    private static void makeAll(PadPolish x) {
-        for (int p = 0; p < x.count(1); p++) {
+    private static PadPolish makeAll(PadPolish x) {
+        int passes = x.count(1);
+        for (int p = 0; p < passes; p++) {
             x.make(p);
         }
+        return x;
     }
 
-    private static void compareRounds(PadPolish x, String where) {
+    private static void compareRounds(Supplier<PadPolish> fresh, String where) {
         for (int n : new int[] {0, 1, 2, 7, 20}) {
-            int[] film = new int[15];
-            int[] haze = new int[15];
-            for (int cell = 0; cell < 15; cell++) {
-                film[cell] = x.ahead(n, cell, 0);
-                haze[cell] = x.ahead(n, cell, 1);
-            }
-            int uneven = x.uneven(n);
+            PadPolish asked = fresh.get();
+            PadPolish made = fresh.get();
             for (int round = 0; round < n; round++) {
-                makeAll(x);
+                makeAll(made);
             }
             for (int cell = 0; cell < 15; cell++) {
-                Checks.due(where + ": ahead film", film[cell], x.cell(cell, 0));
-                Checks.due(where + ": ahead haze", haze[cell], x.cell(cell, 2));
+                Checks.due(where + ": ahead film", asked.ahead(n, cell, 0), made.cell(cell, 0));
+                Checks.due(where + ": ahead haze", asked.ahead(n, cell, 1), made.cell(cell, 2));
             }
-            Checks.due(where + ": uneven", uneven, Checks.spread(Checks.films(x)));
-            x.restore(IMAGE);
+            Checks.due(where + ": uneven", asked.uneven(n), Checks.spread(Checks.films(made)));
         }
     }
 
-    private static void compareOrder(PadPolish x, String where) {
+    private static void compareOrder(Supplier<PadPolish> fresh, String where) {
+        PadPolish asked = fresh.get();
+        int passes = asked.count(1);
         int[] best = new int[5];
         best[4] = 1000;
-        tryOrders(x, new int[4], 0, best);
-        Checks.due(where + ": order(-1)", x.order(-1), best[4]);
+        tryOrders(fresh, passes, new int[4], 0, best);
+        Checks.due(where + ": order(-1)", asked.order(-1), best[4]);
         for (int k = 0; k < 4; k++) {
-            Checks.due(where + ": order(" + k + ")", x.order(k), k < x.count(1) ? best[k] : PadPolish.NONE);
+            Checks.due(where + ": order(" + k + ")", asked.order(k), k < passes ? best[k] : PadPolish.NONE);
         }
     }
 
-    private static void tryOrders(PadPolish x, int[] order, int length, int[] best) {
-        int passes = x.count(1);
+    private static void tryOrders(Supplier<PadPolish> fresh, int passes, int[] order, int length, int[] best) {
         if (length == passes) {
+            PadPolish x = fresh.get();
             for (int k = 0; k < passes; k++) {
                 x.make(order[k]);
             }
             int uneven = Checks.spread(Checks.films(x));
-            x.restore(IMAGE);
             if (uneven < best[4]) {
                 best[4] = uneven;
                 System.arraycopy(order, 0, best, 0, 4);
@@ -374,15 +374,18 @@ final class ForetoldTest {
             }
             if (!used) {
                 order[length] = pass;
-                tryOrders(x, order, length + 1, best);
+                tryOrders(fresh, passes, order, length + 1, best);
             }
         }
     }
 
-    private static void compareEnough(PadPolish x, String where, int t) {
-        int foretold = x.enough(t);
+    private static void compareEnough(Supplier<PadPolish> fresh, String where, int t) {
         int found = PadPolish.NONE;
         for (int rounds = 0; rounds <= 40 && found == PadPolish.NONE; rounds++) {
+            PadPolish x = fresh.get();
+            for (int round = 0; round < rounds; round++) {
+                makeAll(x);
+            }
             boolean all = true;
             for (int cell = 0; cell < 15; cell++) {
                 all &= x.cell(cell, 3) == 0 || x.cell(cell, 0) >= t;
@@ -390,66 +393,65 @@ final class ForetoldTest {
             if (all) {
                 found = rounds;
             }
-            makeAll(x);
         }
-        x.restore(IMAGE);
-        Checks.due(where + ": enough(" + t + ")", foretold, found);
+        Checks.due(where + ": enough(" + t + ")", fresh.get().enough(t), found);
     }
 
     /** A pad can only be made wetter, so it is first run dry over the table, whose cells it changes. */
-    private static void compareWetFor(PadPolish x, String where, int t) {
-        for (int pass = 0; pass < x.count(1); pass++) {
-            for (int i = 0; i < 99 && x.pad(0) > 0; i++) {
-                x.make(pass);
-            }
-            int foretold = x.wetFor(pass, t);
-            int[] ahead = Checks.films(x);
+    private static PadPolish dried(Supplier<PadPolish> fresh, int pass) {
+        PadPolish x = fresh.get();
+        for (int i = 0; i < 99 && x.pad(0) > 0; i++) {
+            x.make(pass);
+        }
+        return x;
+    }
+
+    private static void compareWetFor(Supplier<PadPolish> fresh, String where, int t) {
+        int passes = fresh.get().count(1);
+        for (int pass = 0; pass < passes; pass++) {
+            int[] ahead = Checks.films(dried(fresh, pass));
             int found = PadPolish.NONE;
             for (int wet = 0; wet <= 99 && found == PadPolish.NONE; wet++) {
+                PadPolish x = dried(fresh, pass);
                 x.charge(wet, 0);
                 x.make(pass);
                 boolean all = true;
-                for (int k = 0; k < x.path(pass, -1); k++) {
+                for (int k = x.path(pass, -1) - 1; k >= 0; k--) {
                     int cell = x.path(pass, k);
                     all &= x.cell(cell, 0) >= ahead[cell] + t;
                 }
-                x.undo();
-                x.undo();
                 if (all) {
                     found = wet;
                 }
             }
-            x.restore(IMAGE);
-            Checks.due(where + ": wetFor(" + pass + ", " + t + ")", foretold, found);
+            Checks.due(where + ": wetFor(" + pass + ", " + t + ")", dried(fresh, pass).wetFor(pass, t), found);
         }
     }
 
-    private static void compareGoOn(PadPolish x, String where) {
-        int foretold = x.goOn();
-        makeAll(x);
-        int goingOn = Checks.sum(Checks.films(x));
-        x.restore(IMAGE);
+    private static void compareGoOn(Supplier<PadPolish> fresh, String where) {
+        int goingOn = Checks.sum(Checks.films(makeAll(fresh.get())));
+        PadPolish x = fresh.get();
         x.rest();
-        makeAll(x);
-        int rested = Checks.sum(Checks.films(x));
-        x.restore(IMAGE);
-        Checks.due(where + ": goOn()", foretold, goingOn - rested);
+        int rested = Checks.sum(Checks.films(makeAll(x)));
+        Checks.due(where + ": goOn()", fresh.get().goOn(), goingOn - rested);
     }
 
-    private static void compareDone(PadPolish x, String where, Random random) {
-        int sets = 1 << x.count(1);
+    private static void compareDone(Supplier<PadPolish> fresh, String where, Random random) {
+        int passes = fresh.get().count(1);
+        int sets = 1 << passes;
         int made = random.nextInt(sets);
         int[][] films = new int[sets][];
         for (int set = 0; set < sets; set++) {
-            for (int p = 0; p < x.count(1); p++) {
+            PadPolish x = fresh.get();
+            for (int p = 0; p < passes; p++) {
                 if ((set >> p & 1) == 1) {
                     x.make(p);
                 }
             }
             films[set] = Checks.films(x);
-            x.restore(IMAGE);
         }
         int from = random.nextInt(26);
+        PadPolish x = fresh.get();
         x.row(3, 1 + random.nextInt(2), 40);
         for (int cell = 0; cell < 15; cell++) {
             x.set(3, from + cell, films[made][cell]);
@@ -457,7 +459,7 @@ final class ForetoldTest {
         int alike = 0;
         int least = PadPolish.NONE;
         for (int set = sets - 1; set >= 0; set--) {
-            if (java.util.Arrays.equals(films[set], films[made])) {
+            if (Arrays.equals(films[set], films[made])) {
                 alike++;
                 least = set;
             }
@@ -466,23 +468,22 @@ final class ForetoldTest {
         Checks.due(where + ": done(1)", x.done(3, from, 1), least);
     }
 
-    private static void compareEvenings(PadPolish x, String where, Random random) {
+    private static void compareEvenings(Supplier<PadPolish> fresh, String where, Random random) {
         int n = random.nextInt(31);
         int seed = 1 + random.nextInt(999999);
-        int film = x.evenings(n, seed, 0);
-        int uneven = x.evenings(n, seed, 1);
+        PadPolish x = fresh.get();
+        int passes = x.count(1);
         BigInteger draw = BigInteger.valueOf(seed);
         for (int i = 0; i < n; i++) {
             draw = draw.multiply(BigInteger.valueOf(16807)).mod(BigInteger.valueOf(2147483647));
-            if (x.count(1) > 0) {
-                x.make(draw.mod(BigInteger.valueOf(x.count(1))).intValue());
+            if (passes > 0) {
+                x.make(draw.mod(BigInteger.valueOf(passes)).intValue());
             }
             if (draw.mod(BigInteger.valueOf(7)).signum() == 0) {
                 x.stand(draw.mod(BigInteger.valueOf(15)).intValue());
             }
         }
-        Checks.due(where + ": evenings film", film, Checks.sum(Checks.films(x)));
-        Checks.due(where + ": evenings uneven", uneven, Checks.spread(Checks.films(x)));
-        x.restore(IMAGE);
+        Checks.due(where + ": evenings film", fresh.get().evenings(n, seed, 0), Checks.sum(Checks.films(x)));
+        Checks.due(where + ": evenings uneven", fresh.get().evenings(n, seed, 1), Checks.spread(Checks.films(x)));
     }
 }
