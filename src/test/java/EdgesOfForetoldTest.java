@@ -53,6 +53,7 @@ final class EdgesOfForetoldTest {
         eveningsNumbers();
         eveningsDraws();
         eveningsWithoutPasses();
+        eveningsOfOnePass();
         imageNumbers();
         imageInPlaceOfAnother();
         restoreNumbers();
@@ -146,13 +147,15 @@ final class EdgesOfForetoldTest {
             Checks.due("cell " + cell + " is thicker", Checks.told(Checks.filmText(films)).uneven(0), 2);
             films[cell] = 7;
         }
-        PadPolish x = Checks.told("t0,0;f0,99;g0;");
+        PadPolish x = Checks.told("t0,0;f0,99;g0;g0;");
         for (int i = 0; i < 40; i++) {
             x.charge(99, 0);
             x.make(0);
         }
         Checks.due("999 above none", x.uneven(0), 999);
         Checks.due("999 above none", x.uneven(20), 999);
+        Checks.due("999 above none in each order", x.order(-1), 999);
+        Checks.due("the first order", x.order(0) * 10 + x.order(1), 1);
     }
 
     // order: "how much (k = -1), the k-th PASS (0 on; NONE). BAD: k not -1 to 3; STATE: no TABLE (ahead of BAD)"
@@ -632,6 +635,14 @@ final class EdgesOfForetoldTest {
         Checks.due("it stands on a cell without film", x.evenings(1, 2, 0), 65);
         // 127774 becomes 13971, which leaves 6 by 7, 6 by 15.
         Checks.due("it does not stand", x.evenings(1, 127774, 0), 65);
+    }
+
+    // the same: any number leaves 0 by 1
+    private static void eveningsOfOnePass() {
+        PadPolish x = charged(99, "t0,0;g3;");
+        Checks.due("none", x.evenings(0, 127774, 0), 0);
+        Checks.due("one", x.evenings(1, 127774, 0), 24);
+        Checks.due("one", x.evenings(1, 127774, 1), 24);
     }
 
     // image: "An IMAGE (0, 1)", "1. BAD; STATE: no TABLE"

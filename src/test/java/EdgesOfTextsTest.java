@@ -447,11 +447,16 @@ final class EdgesOfTextsTest {
     // is no HAZE, nothing was SPENT; no ACT can be undone"
     private static void newTableWipes() {
         PadPolish x = Twins.after(Twins::busy);
+        x.make(0);
+        Checks.due("the first table has soft cells", x.count(4) > 0 ? 1 : 0, 1);
         x.table();
-        Checks.due("film told", Checks.tell(x, "t3,7;f2,9;d3e;"), 1);
+        x.charge(99, 99);
+        x.make(0);
+        Checks.due("the second has a soft cell", x.count(4), 1);
+        Checks.due("the third", Checks.tell(x, "t3,7;f2,9;d3e;"), 1);
         Checks.pad(x, "the pad", 0, 7, 0);
         for (int cell = 0; cell <= 14; cell++) {
-            Checks.film(x, "a new table", cell, cell == 2 ? 9 : 0, 0, 0);
+            Checks.film(x, "the third table", cell, cell == 2 ? 9 : 0, 0, 0);
             Checks.due("passes across " + cell, x.cell(cell, 3), cell == 3 || cell == 4 ? 1 : 0);
         }
         Checks.due("acts", x.count(5), 0);
@@ -459,6 +464,11 @@ final class EdgesOfTextsTest {
         Checks.due("sink", x.count(2), 3);
         Checks.due("no second pass", x.make(1), PadPolish.BAD);
         Checks.due("soft", x.count(4), 0);
+        Checks.tell(x, "t0,0;g0;");
+        for (int cell = 0; cell <= 14; cell++) {
+            Checks.film(x, "the fourth table", cell, 0, 0, 0);
+        }
+        Checks.pad(x, "the pad", 0, 0, 0);
     }
 
     /** Rows, images, the trace and the status are none of a table. */
