@@ -236,7 +236,7 @@ public final class PadPolish {
         }
     }
 
-    // ---- foretold
+    // ---- foretold (CELLS told as bits: 0 to 32767)
 
     public int ahead(int n, int cell, int what) {
         if (!told) {

@@ -1,9 +1,15 @@
+import java.io.IOException;
 import java.lang.reflect.Constructor;
 import java.lang.reflect.Field;
 import java.lang.reflect.Method;
 import java.lang.reflect.Modifier;
+import java.nio.file.Files;
+import java.nio.file.Path;
 import java.util.Arrays;
+import java.util.TreeMap;
 import java.util.TreeSet;
+import java.util.regex.Matcher;
+import java.util.regex.Pattern;
 
 /** The public face, its constants, and promise 1: a new object. */
 final class FaceTest {
@@ -18,9 +24,10 @@ final class FaceTest {
         "int kind(int)", "int as(int,int)", "int ask(int,int)", "int trace(int)", "int count(int)", "int status()",
     };
 
-    public static void main(String[] args) {
+    public static void main(String[] args) throws IOException {
         theFace();
         theConstants();
+        asTheDocumentHasIt();
         aNewObject();
         Checks.end();
     }
@@ -52,13 +59,48 @@ final class FaceTest {
         for (Field field : PadPolish.class.getDeclaredFields()) {
             if (!Modifier.isPrivate(field.getModifiers())) {
                 fields.add(field.getName());
+                same(field.getName(), Modifier.toString(field.getModifiers()) + " " + field.getType(),
+                    "public static final int");
             }
         }
         same("the constants", fields, new TreeSet<>(Arrays.asList("NONE", "BAD", "STATE", "FULL")));
         Constructor<?>[] constructors = PadPolish.class.getDeclaredConstructors();
         Checks.due("constructors", constructors.length, 1);
         Checks.due("its parameters", constructors[0].getParameterCount(), 0);
+        same("the constructor", constructors[0].toString(), "public PadPolish()");
         same("the class", Modifier.toString(PadPolish.class.getModifiers()), "public final");
+        same("what it extends", PadPolish.class.getSuperclass(), Object.class);
+        Checks.due("what it implements", PadPolish.class.getInterfaces().length, 0);
+        for (Class<?> inside : PadPolish.class.getDeclaredClasses()) {
+            int modifiers = inside.getModifiers();
+            boolean hidden = Modifier.isStatic(modifiers) && !Modifier.isPublic(modifiers)
+                && !Modifier.isProtected(modifiers);
+            Checks.due(inside + " is static, and not seen from outside", hidden ? 1 : 0, 1);
+        }
+    }
+
+    /** The face of this test, and the values of the constants, are those that stand in the document's own Java. */
+    private static void asTheDocumentHasIt() throws IOException {
+        String document = Files.readString(Path.of("../shared/DOC.md"));
+        String face = document.substring(document.indexOf("public final class"), document.indexOf("## Terms"));
+        TreeSet<String> methods = new TreeSet<>();
+        Matcher method = Pattern.compile("public (int|long) (\\w+)\\(([^)]*)\\);").matcher(face);
+        while (method.find()) {
+            String types = method.group(3).replaceAll("(\\w+) \\w+", "$1").replace(" ", "");
+            methods.add(method.group(1) + " " + method.group(2) + "(" + types + ")");
+        }
+        same("the methods of the document", methods, new TreeSet<>(Arrays.asList(FACE)));
+        TreeMap<String, Integer> constants = new TreeMap<>();
+        Matcher constant = Pattern.compile("([A-Z]+) = (-?\\d+)").matcher(face);
+        while (constant.find()) {
+            constants.put(constant.group(1), Integer.valueOf(constant.group(2)));
+        }
+        TreeMap<String, Integer> ours = new TreeMap<>();
+        ours.put("NONE", PadPolish.NONE);
+        ours.put("BAD", PadPolish.BAD);
+        ours.put("STATE", PadPolish.STATE);
+        ours.put("FULL", PadPolish.FULL);
+        same("the constants of the document", constants, ours);
     }
 
     private static void theConstants() {

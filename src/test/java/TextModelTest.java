@@ -101,7 +101,7 @@ final class TextModelTest {
     }
 
     /** The number of the fault and its place, or 0 and how many passes there are. */
-    private static int[] judge(String text) {
+    static int[] judge(String text) {
         stage = Stage.LAW;
         cells = 0;
         passes = 0;
