@@ -6,7 +6,7 @@ import java.util.function.ToLongFunction;
 /** Rule 12 of LANGUAGE.md: what a new object, a table and the other calls make, in bytes. */
 final class RoomTest {
     private static final ThreadMXBean MADE = (ThreadMXBean) ManagementFactory.getThreadMXBean();
-    private static final int TIMES = 400;
+    private static final int TIMES = 200;
     private static final int OBJECT = 16000;
     private static final int TABLE = 800;
     private static final String FULL_TABLE = "t2,3;f0,10;f7,20;g0eeeebwww;s5eenwwbbe;d14wwwwneee;r2bbeennww;";
@@ -57,7 +57,7 @@ final class RoomTest {
         return x;
     }
 
-    /** Calls on one object, as many as it is promised. The first of all may load classes: it is not counted. */
+    /** Calls on one object, no more than it is promised. The first of all may load classes: it is not counted. */
     private static void atMost(String call, int bytes, Supplier<PadPolish> past, ToLongFunction<PadPolish> made) {
         answers += made.applyAsLong(past.get());
         PadPolish x = past.get();

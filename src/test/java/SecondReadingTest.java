@@ -62,6 +62,8 @@ final class SecondReadingTest {
                 return tellFilm();
             case 3:
                 return askAndTrace();
+            case 4:
+                return manyRounds();
             default:
                 boolean act = random.nextInt(3) == 0 || thirsty && random.nextInt(3) > 0;
                 return drawn(act ? ACTS[random.nextInt(ACTS.length)] : calls.get(random.nextInt(calls.size())));
@@ -69,16 +71,49 @@ final class SecondReadingTest {
     }
 
     private boolean tell() {
-        String text = ForetoldTest.randomText(random);
-        if (random.nextInt(4) == 0) {
-            int place = random.nextInt(text.length());
-            text = text.substring(0, place) + "tfgrew09,;!".charAt(random.nextInt(11)) + text.substring(place + 1);
-        }
         boolean same = true;
-        for (char letter : text.toCharArray()) {
+        for (char letter : text().toCharArray()) {
             same = same && made("feed", (int) letter);
         }
         return same && made("table");
+    }
+
+    private String text() {
+        String text = ForetoldTest.randomText(random);
+        int place = random.nextInt(text.length());
+        switch (random.nextInt(16)) {
+            case 0: case 1: case 2:
+                return text.substring(0, place) + "tfgrew09,;!".charAt(random.nextInt(11)) + text.substring(place + 1);
+            case 3:
+                return "t0,0;g7ewewewew" + (random.nextBoolean() ? ";" : "e;");
+            case 4:
+                return text + "g0;".repeat(random.nextInt(45));
+            case 5: case 6:
+                return noCellBare() + text.replaceFirst("^[tf0-9,;]*", "");
+            default:
+                return text;
+        }
+    }
+
+    private String noCellBare() {
+        StringBuilder text = new StringBuilder("t1,8;");
+        for (int cell = 0; cell < 15; cell++) {
+            text.append('f').append(cell).append(',').append(1 + random.nextInt(9)).append(';');
+        }
+        return text.toString();
+    }
+
+    /** Of a table with one pass over one cell, as it takes many rounds to be enough there. */
+    private boolean manyRounds() {
+        boolean same = true;
+        for (char letter : "t0,0;g7;".toCharArray()) {
+            same = same && made("feed", (int) letter);
+        }
+        same = same && made("table") && made("charge", 50 + random.nextInt(50), 0);
+        for (int i = 0; i < 8; i++) {
+            same = same && made("enough", 700 + random.nextInt(300));
+        }
+        return same;
     }
 
     /** A row tells FILM as it is when some passes, drawn, are made; done() finds their set. */
